@@ -75,14 +75,12 @@ public final class BiscuitMess {
 
     private static final int OF_COUNT = 14;
 
-    private final byte[] tape = new byte[TAPE_BYTES];
-    private int tapeLength = 0;
+    private final Reader reader = new Reader();
     private int errorAt = -1;
     private final Ship ship = new Ship();
-    /** Where it is tried out what would be; between such trials it is free. */
-    private final Ship trial = new Ship();
     private Plan plan = new Plan();
-    private final Reader reader = new Reader(tape, trial);
+    /** Where it is tried out what would be. */
+    private final Ship trial = new Ship();
 
     public BiscuitMess() {
     }
@@ -90,41 +88,33 @@ public final class BiscuitMess {
     // ---- the language
 
     public int feed(int a, int b, int c, int d, int e) throws IllegalStateException {
-        if (tapeLength > TAPE_BYTES - 20) {
+        Tape tape = reader.tape;
+        if (tape.length > TAPE_BYTES - 20) {
             throw new IllegalStateException("the tape is full");
         }
-        append(a);
-        append(b);
-        append(c);
-        append(d);
-        append(e);
-        return tapeLength;
-    }
-
-    private void append(int number) {
-        for (int shift = 24; shift >= 0; shift -= 8) {
-            if (tapeLength >= 0 && tapeLength < TAPE_BYTES) {
-                tape[tapeLength] = (byte) (number >>> shift);
-                tapeLength++;
-            }
-        }
+        tape.append(a);
+        tape.append(b);
+        tape.append(c);
+        tape.append(d);
+        tape.append(e);
+        return tape.length;
     }
 
     public int trim(int n) throws IllegalArgumentException {
-        if (n < 0 || n > tapeLength) {
+        if (n < 0 || n > reader.tape.length) {
             throw new IllegalArgumentException("not a length of the tape");
         }
-        tapeLength = n;
+        reader.tape.length = n;
         return n;
     }
 
     public int teach() {
-        int error = reader.read(tapeLength);
-        tapeLength = 0;
+        int error = reader.read();
+        reader.tape.length = 0;
         errorAt = error == 0 ? -1 : reader.position();
         if (error == 0) {
             plan = reader.exchange(plan);
-            ship.copyStores(trial);
+            ship.copyStores(reader.ship);
         }
         return error;
     }
@@ -155,7 +145,7 @@ public final class BiscuitMess {
             case 10: return ship.ofMesses(MESS_COMPLAINTS);
             case 11: return ship.ofMesses(MESS_EATEN);
             case 12: return ship.ofMesses(MESS_WEEVILS_EATEN);
-            default: return tapeLength;
+            default: return reader.tape.length;
         }
     }
 
@@ -356,10 +346,27 @@ public final class BiscuitMess {
         return d;
     }
 
+    private static final class Tape {
+        private final byte[] bytes = new byte[TAPE_BYTES];
+        private int length = 0;
+
+        /** Appends its four bytes, the highest one first. */
+        void append(int number) {
+            for (int shift = 24; shift >= 0; shift -= 8) {
+                if (length >= 0 && length < TAPE_BYTES) {
+                    bytes[length] = (byte) (number >>> shift);
+                    length++;
+                }
+            }
+        }
+
+        int byteAt(int at) {
+            return at >= 0 && at < length && at < TAPE_BYTES ? bytes[at] : -1;
+        }
+    }
+
     /** Cuts the tape into tokens. */
     private static final class Tokens {
-        private final byte[] tape;
-        private int length = 0;
         private final int[] kinds = new int[TOKENS + 1];
         private final int[] starts = new int[TOKENS + 1];
         /** Of a number its value, of a word its key. */
@@ -370,8 +377,7 @@ public final class BiscuitMess {
         private int end = 0;
         private long value = 0;
 
-        Tokens(byte[] tape) {
-            this.tape = tape;
+        Tokens() {
             int number = 0;
             long key = 0;
             for (int i = 0; i < KEYWORD_TEXT.length(); i++) {
@@ -387,17 +393,16 @@ public final class BiscuitMess {
         }
 
         /** The last token is END or BAD: what stands behind a BAD one never matters. */
-        void cut(int tapeLength) {
-            length = tapeLength;
+        void cut(Tape tape) {
             end = 0;
             for (int n = 0; n <= TOKENS; n++) {
-                int start = behindBlanks(end);
+                int start = behindBlanks(tape, end);
                 starts[n] = start;
-                kinds[n] = start < length ? BAD : END;
-                if (n == TOKENS || start >= length) {
+                kinds[n] = start < tape.length ? BAD : END;
+                if (n == TOKENS || start >= tape.length) {
                     return;
                 }
-                scan(start);
+                scan(tape, start);
                 kinds[n] = kind;
                 values[n] = value;
                 if (kind == BAD) {
@@ -406,27 +411,23 @@ public final class BiscuitMess {
             }
         }
 
-        private int byteAt(int at) {
-            return at >= 0 && at < length && at < TAPE_BYTES && at < tape.length ? tape[at] : -1;
-        }
-
-        private int behindBlanks(int from) {
+        private int behindBlanks(Tape tape, int from) {
             int at = from;
-            while (at < length && (byteAt(at) == ' ' || byteAt(at) == '\n')) {
+            while (at < tape.length && (tape.byteAt(at) == ' ' || tape.byteAt(at) == '\n')) {
                 at++;
             }
             return at;
         }
 
-        private void scan(int start) {
-            int sign = byteAt(start);
+        private void scan(Tape tape, int start) {
+            int sign = tape.byteAt(start);
             kind = BAD;
             end = start + 1;
             if (isLetter(sign)) {
-                scanWord(start);
+                scanWord(tape, start);
             } else if (isDigit(sign)) {
-                scanNumber(start);
-            } else if ((sign == '<' || sign == '>') && byteAt(end) == '=') {
+                scanNumber(tape, start);
+            } else if ((sign == '<' || sign == '>') && tape.byteAt(end) == '=') {
                 kind = sign == '<' ? AT_MOST : AT_LEAST;
                 end = start + 2;
             } else if (sign > 0 && SYMBOLS.indexOf((char) sign) >= 0) {
@@ -434,11 +435,11 @@ public final class BiscuitMess {
             }
         }
 
-        private void scanWord(int start) {
+        private void scanWord(Tape tape, int start) {
             value = 0;
             end = start;
-            while (end < length && (isLetter(byteAt(end)) || isDigit(byteAt(end)))) {
-                value = longerKey(value, byteAt(end));
+            while (end < tape.length && (isLetter(tape.byteAt(end)) || isDigit(tape.byteAt(end)))) {
+                value = longerKey(value, tape.byteAt(end));
                 end++;
             }
             if (end - start <= 10) {
@@ -446,11 +447,11 @@ public final class BiscuitMess {
             }
         }
 
-        private void scanNumber(int start) {
+        private void scanNumber(Tape tape, int start) {
             value = 0;
             end = start;
-            while (end < length && isDigit(byteAt(end))) {
-                value = value * 10 + (byteAt(end) - '0');
+            while (end < tape.length && isDigit(tape.byteAt(end))) {
+                value = value * 10 + (tape.byteAt(end) - '0');
                 end++;
             }
             if (end - start <= 6) {
@@ -493,10 +494,11 @@ public final class BiscuitMess {
         }
     }
 
-    /** Reads the tape as a list, into a plan and a ship that stand ready for it. */
+    /** Has the tape, and reads it as a list into a plan and a ship, which are handed over if it has no error. */
     private static final class Reader {
-        private final Tokens tokens;
-        private final Ship ship;
+        private final Tape tape = new Tape();
+        private final Tokens tokens = new Tokens();
+        private final Ship ship = new Ship();
         private Plan plan = new Plan();
         private final long[] caskNames = new long[CASKS];
         private final long[] messNames = new long[MESSES];
@@ -506,14 +508,9 @@ public final class BiscuitMess {
         private int fault = 0;
         private int faultToken = 0;
 
-        Reader(byte[] tape, Ship ship) {
-            this.tokens = new Tokens(tape);
-            this.ship = ship;
-        }
-
         /** Returns 0 or the error; its place is position() then. */
-        int read(int length) {
-            tokens.cut(length);
+        int read() {
+            tokens.cut(tape);
             plan.clear();
             ship.clear();
             next = 0;

@@ -70,6 +70,7 @@ public final class ForesightTest {
     private static void foresee() {
         for (int days : new int[] {1, 2, 7, 30, 90}) {
             BiscuitMess x = Check.ship(STORES);
+            x.setRation(days < 7 ? 3 : 2);
             x.pass(3);
             int[] seen = new int[5];
             long before = x.digest();
@@ -89,6 +90,11 @@ public final class ForesightTest {
         for (int what = 0; what < 5; what++) {
             Check.due("foresee(3, " + what + ")", x.foresee(3, what), due[what]);
         }
+        // With the day before: m has got 4 then, by which a is thrown overboard.
+        BiscuitMess z = Check.ship("cask a biscuits 90 weevils 8 damp 0;mess m men 4 proud 7;issue m from a;throw a when got m=4;");
+        Check.due("foresee(1, 1) at first", z.foresee(1, 1), 86);
+        z.pass(1);
+        Check.due("foresee(1, 1) then", z.foresee(1, 1), 0);
         for (int days : new int[] {0, -1, 91}) {
             Check.dueArgument("foresee(" + days + ", 0)", x, () -> x.foresee(days, 0));
             Check.dueArgument("foresee(" + days + ", 5)", x, () -> x.foresee(days, 5));
@@ -147,6 +153,9 @@ public final class ForesightTest {
         x = Check.ship("cask a biscuits 100 weevils 150 damp 0;cask b biscuits 100 weevils 150 damp 0;" + mess
                 + "mess n men 10 proud 9;mess o men 10 proud 9;issue m from a;issue n from b;issue o from b;");
         Check.due("the better one", x.choose(1), 1);
+        x = Check.ship("cask a biscuits 100 weevils 150 damp 0;cask b biscuits 100 weevils 150 damp 0;" + mess
+                + "issue m from a;");
+        Check.due("the first one", x.choose(1), 0);
         for (int days : new int[] {0, -1, 61}) {
             BiscuitMess y = x;
             Check.dueArgument("choose(" + days + ")", y, () -> y.choose(days));

@@ -6,6 +6,7 @@ public final class LanguageTest {
         feed();
         trim();
         teachPutsAllInPlace();
+        teachAgainAndAgain();
         teachWithErrorLeavesAll();
         tokens();
         grammar();
@@ -87,6 +88,31 @@ public final class LanguageTest {
         Check.due("aboard anew", x.cask(0, 3), 1);
     }
 
+    /** What was told, and what came of it, must not be found in a later list. */
+    private static void teachAgainAndAgain() {
+        BiscuitMess x = new BiscuitMess();
+        long first = 0;
+        for (int i = 0; i < 8; i++) {
+            Check.write(x, HEAD + "issue m from c when 1" + Check.repeat("+1", 99) + "=100;"
+                    + "sift c when min(1,min(2,min(3,min(4,min(5,min(6,7))))))=1 and day-day=0;throw c when biscuits c=0 or taps c=0;");
+            Check.due("teach again", x.teach(), 0);
+            Check.due("issues", x.count(5), 1);
+            Check.due("lines of sift and throw", x.count(6), 2);
+            x.setRation(0);
+            x.pass(90);
+            x.setRation(3);
+            x.pass(90);
+            long now = 31 * x.count(10) + x.count(11) + 1000L * x.mess(0, 2) + 31L * x.mess(0, 5) + 77L * x.cask(0, 4) + x.cask(0, 3);
+            Check.due("behind the same list", now, i == 0 ? now : first);
+            first = now;
+            x.foresee(90, 0);
+            for (int wrong = 0; wrong < 2; wrong++) {
+                Check.write(x, HEAD + "issue m from c when 1=1;sift c when 1=1;sift c when 1=1;issue m from x;");
+                Check.due("teach with an error between", x.teach(), 3);
+            }
+        }
+    }
+
     private static void teachWithErrorLeavesAll() {
         BiscuitMess x = Check.ship(HEAD + "issue m from c when day < 5;sift c when day=3;");
         x.setRation(2);
@@ -156,7 +182,8 @@ public final class LanguageTest {
             Check.dueErrorAtMark(text, 1);
         }
         String[] wrongBehindHead = {
-            "issue^", "issue ^from c;", "issue m ^c;", "issue m from ^;", "issue m from c^", "issue m from c ^1<2;",
+            "issue^", "issue ^from c;", "issue m ^c;", "issue m ^;", "issue ^;", "issue m from ^;", "sift c when 1*^<2;", "sift c when 2/^=2;",
+            "sift c when 1+^<2;", "sift c when 1<2*^;", "sift c when 1<2-^;", "issue m from c^", "issue m from c ^1<2;",
             "issue m from c when^", "issue m from c when ^;", "issue m from c when 1^;", "issue m from c when 1 <^;",
             "issue m from c when 1<2^)", "issue m from c when 1<2^]", "issue m from c ^or 1<2;",
             "sift c^;", "sift ^when 1<2;", "throw c^;", "throw ^;", "sift c when ^or 1<2;", "sift c when 1<2 or^;",
@@ -192,6 +219,14 @@ public final class LanguageTest {
         Check.dueError(sift + "((((((((1))))))))<2;", 0, -1);
         Check.dueErrorAtMark(sift + "((((((((^(1)))))))))<2;", 1);
         Check.dueError(sift + "1<((((((((1))))))));", 0, -1);
+        Check.dueError(HEAD + "issue m from c when 1<((((((((1))))))));", 0, -1);
+        Check.dueError(HEAD + "issue m from c when [[[[[[[[1<2]]]]]]]];throw c when [[[[[[[[1<2]]]]]]]];", 0, -1);
+        Check.dueErrorAtMark(HEAD + "issue m from c when [[[[[[[[^[1<2]]]]]]]]];", 1);
+        Check.dueErrorAtMark(HEAD + "throw c when [[[[[[[[^[1<2]]]]]]]]];", 1);
+        Check.dueError(sift + "[[[[[[[min(-1,2)<3]]]]]]];", 1, sift.length() + 11);
+        Check.dueError(sift + "[[[[[[min(-1,-2)<max((1),(2))]]]]]];", 0, -1);
+        Check.dueErrorAtMark(sift + "[[[[[[min(-1,-^-2)<3]]]]]];", 1);
+        Check.dueErrorAtMark(sift + "[[[[[[max(-^-1,-2)<3]]]]]];", 1);
         Check.dueErrorAtMark(sift + "1<((((((((^(", 1);
         Check.dueError(sift + "[[[[[[[[1<2]]]]]]]];", 0, -1);
         Check.dueErrorAtMark(sift + "[[[[[[[[^[1<2]]]]]]]]];", 1);
@@ -319,14 +354,15 @@ public final class LanguageTest {
             "not [not 1=1 or 1=2]", "not 1=2 or 1=1", "not [[1=1 or 1=1] and 1=2]", "not 1=1 or 1=1",
             "65536*65536=0", "65536*32768<0", "65536*32768-1>0", "-(65536*32768)=65536*32768",
             "65536*32768/-1=65536*32768", "65536*32767+65535+65536<0", "46341*46341<0",
-            "day=0", "ration=1", "biscuits c=100", "weevils c=40", "damp c=8", "taps c=2", "men m=5", "temper m=0", "got m=0",
+            "day=0", "ration=1", "biscuits c=100", "weevils c=40", "damp c=8", "taps c=2", "taps d=9", "men m=5", "temper m=0", "got m=0",
             "-men m+6=1", "-(men m+6)=-11", "2-(3-4)=3", "min(1,2)*3=3", "1<2 and 2<3 and 3<4", "1=2 or 2=3 or 4=4",
         };
+        String more = HEAD + "cask d biscuits 100 weevils 199 damp 0;";
         for (String test : holds) {
-            BiscuitMess x = Check.ship(HEAD + "throw c when " + test + ";");
+            BiscuitMess x = Check.ship(more + "throw c when " + test + ";");
             x.pass(1);
             Check.due("aboard behind throw when " + test, x.cask(0, 3), 0);
-            x = Check.ship(HEAD + "throw c when not [" + test + "];");
+            x = Check.ship(more + "throw c when not [" + test + "];");
             x.pass(1);
             Check.due("aboard behind throw when not " + test, x.cask(0, 3), 1);
         }

@@ -2,6 +2,7 @@
 public final class StoresTest {
     public static void main(String[] args) {
         newObject();
+        anew();
         count();
         caskAndMess();
         tap();
@@ -17,6 +18,28 @@ public final class StoresTest {
         damp();
         pass();
         Check.end("StoresTest");
+    }
+
+    private static final String HEAVY = "cask a biscuits 50 weevils 300 damp 0;mess m men 9 proud 9;mess n men 9 proud 9;issue m from a;";
+
+    /** Runs trials and teaches it anew, more often than there are stores to write it into. */
+    private static void anew() {
+        BiscuitMess x = new BiscuitMess();
+        for (int i = 0; i < 6; i++) {
+            Check.write(x, HEAVY);
+            Check.due("teach", x.teach(), 0);
+            dueCask(x, 0, 50, 300, 0, 1, 0);
+            dueMess(x, 0, 9, 9, 0, 0, 0, 0, 0);
+            dueMess(x, 1, 9, 9, 0, 0, 0, 0, 0);
+            Check.due("eaten", x.count(11), 0);
+            Check.due("weevils eaten", x.count(12), 0);
+            x.sift(0);
+            x.pass(3);
+            x.choose(5);
+            x.lasts(0);
+            dueMess(x, 1, 9, 9, 6, 0, 0, 3, 0);
+            Check.due("eaten then", x.count(11) > 0 && x.count(12) > 0 ? 1 : 0, 1);
+        }
     }
 
     private static void newObject() {

@@ -28,16 +28,16 @@ public final class StoresTest {
         for (int i = 0; i < 6; i++) {
             Check.write(x, HEAVY);
             Check.due("teach", x.teach(), 0);
-            dueCask(x, 0, 50, 300, 0, 1, 0);
-            dueMess(x, 0, 9, 9, 0, 0, 0, 0, 0);
-            dueMess(x, 1, 9, 9, 0, 0, 0, 0, 0);
+            Check.dueCask(x, 0, 50, 300, 0, 1, 0);
+            Check.dueMess(x, 0, 9, 9, 0, 0, 0, 0, 0);
+            Check.dueMess(x, 1, 9, 9, 0, 0, 0, 0, 0);
             Check.due("eaten", x.count(11), 0);
             Check.due("weevils eaten", x.count(12), 0);
             x.sift(0);
             x.pass(3);
             x.choose(5);
             x.lasts(0);
-            dueMess(x, 1, 9, 9, 6, 0, 0, 3, 0);
+            Check.dueMess(x, 1, 9, 9, 6, 0, 0, 3, 0);
             Check.due("eaten then", x.count(11) > 0 && x.count(12) > 0 ? 1 : 0, 1);
         }
     }
@@ -85,25 +85,25 @@ public final class StoresTest {
     private static void caskAndMess() {
         BiscuitMess x = Check.ship("mess m men 7 proud 3;cask a biscuits 100 weevils 50 damp 2;mess n men 4 proud 9;"
                 + "cask b biscuits 60 weevils 7 damp 3;issue n from a;");
-        dueCask(x, 0, 100, 50, 2, 1, 0);
-        dueCask(x, 1, 60, 7, 3, 1, 0);
-        dueMess(x, 0, 7, 3, 0, 0, 0, 0, 0);
-        dueMess(x, 1, 4, 9, 0, 0, 0, 0, 0);
+        Check.dueCask(x, 0, 100, 50, 2, 1, 0);
+        Check.dueCask(x, 1, 60, 7, 3, 1, 0);
+        Check.dueMess(x, 0, 7, 3, 0, 0, 0, 0, 0);
+        Check.dueMess(x, 1, 4, 9, 0, 0, 0, 0, 0);
         x.setRation(3);
         Check.due("complaints", x.pass(1), 2);
         // n takes 12 of a with 6 weevils, which are more than 4; m gets nothing.
-        dueCask(x, 0, 87, 48, 2, 1, 0);
-        dueCask(x, 1, 60, 8, 3, 1, 0);
-        dueMess(x, 0, 7, 3, 2, 0, 0, 1, 0);
-        dueMess(x, 1, 4, 9, 1, 12, 6, 1, 12);
+        Check.dueCask(x, 0, 87, 48, 2, 1, 0);
+        Check.dueCask(x, 1, 60, 8, 3, 1, 0);
+        Check.dueMess(x, 0, 7, 3, 2, 0, 0, 1, 0);
+        Check.dueMess(x, 1, 4, 9, 1, 12, 6, 1, 12);
         x.pass(1);
         // 48 * 12 / 87 = 6 weevils; 75 - 42 / 30 biscuits; 42 + 84 / 20.
-        dueCask(x, 0, 74, 46, 2, 1, 0);
-        dueCask(x, 1, 60, 9, 3, 1, 0);
-        dueMess(x, 1, 4, 9, 2, 12, 6, 2, 24);
+        Check.dueCask(x, 0, 74, 46, 2, 1, 0);
+        Check.dueCask(x, 1, 60, 9, 3, 1, 0);
+        Check.dueMess(x, 1, 4, 9, 2, 12, 6, 2, 24);
         x.setRation(0);
         x.pass(1);
-        dueMess(x, 1, 4, 9, 1, 0, 0, 2, 24);
+        Check.dueMess(x, 1, 4, 9, 1, 0, 0, 2, 24);
         Check.dueIndex("cask(2, 0)", x, () -> x.cask(2, 0));
         Check.dueIndex("cask(-1, 0)", x, () -> x.cask(-1, 0));
         Check.dueIndex("cask(0, 5)", x, () -> x.cask(0, 5));
@@ -145,16 +145,16 @@ public final class StoresTest {
         BiscuitMess x = Check.ship("cask a biscuits 59 weevils 7 damp 2;cask b biscuits 9 weevils 8 damp 2;"
                 + "cask c biscuits 9 weevils 1 damp 2;throw c when day=0;");
         Check.due("sift(2)", x.sift(2), 1);
-        dueCask(x, 2, 9, 0, 2, 1, 1);
+        Check.dueCask(x, 2, 9, 0, 2, 1, 1);
         Check.due("sift(2) again", x.sift(2), 0);
         Check.due("sift(0)", x.sift(0), 4);
-        dueCask(x, 0, 54, 3, 2, 1, 1);
+        Check.dueCask(x, 0, 54, 3, 2, 1, 1);
         Check.due("sift(1)", x.sift(1), 4);
-        dueCask(x, 1, 9, 4, 2, 1, 1);
+        Check.dueCask(x, 1, 9, 4, 2, 1, 1);
         Check.due("sift(0) again", x.sift(0), 2);
-        dueCask(x, 0, 49, 1, 2, 1, 2);
+        Check.dueCask(x, 0, 49, 1, 2, 1, 2);
         x.pass(1);
-        dueCask(x, 2, 0, 0, 2, 0, 2);
+        Check.dueCask(x, 2, 0, 0, 2, 0, 2);
         Check.dueState("sift of one overboard", x, () -> x.sift(2));
         Check.dueIndex("sift(3)", x, () -> x.sift(3));
         Check.dueIndex("sift(-1)", x, () -> x.sift(-1));
@@ -165,12 +165,12 @@ public final class StoresTest {
         Check.due("fill(0, 1)", x.fill(0, 1), 60);
         Check.due("fill(0, 939)", x.fill(0, 939), 999);
         Check.due("fill(0, 999)", x.fill(0, 999), 999);
-        dueCask(x, 0, 999, 7, 2, 1, 0);
+        Check.dueCask(x, 0, 999, 7, 2, 1, 0);
         x.sift(1);
         x.pass(1);
-        dueCask(x, 1, 0, 0, 3, 0, 1);
+        Check.dueCask(x, 1, 0, 0, 3, 0, 1);
         Check.due("fill(1, 12)", x.fill(1, 12), 12);
-        dueCask(x, 1, 12, 0, 3, 1, 1);
+        Check.dueCask(x, 1, 12, 0, 3, 1, 1);
         Check.due("casks aboard", x.count(3), 2);
         Check.dueArgument("fill(0, 0)", x, () -> x.fill(0, 0));
         Check.dueArgument("fill(0, -5)", x, () -> x.fill(0, -5));
@@ -182,11 +182,11 @@ public final class StoresTest {
     private static void dry() {
         BiscuitMess x = Check.ship("cask a biscuits 59 weevils 7 damp 13;cask b biscuits 9 weevils 8 damp 13;throw b when day=0;");
         Check.due("dry(0)", x.dry(0), 13);
-        dueCask(x, 0, 59, 7, 0, 1, 0);
+        Check.dueCask(x, 0, 59, 7, 0, 1, 0);
         Check.due("dry(0) again", x.dry(0), 0);
         x.pass(1);
         Check.due("dry of one overboard", x.dry(1), 10);
-        dueCask(x, 1, 0, 0, 0, 0, 0);
+        Check.dueCask(x, 1, 0, 0, 0, 0, 0);
         Check.dueIndex("dry(2)", x, () -> x.dry(2));
         Check.dueIndex("dry(-1)", x, () -> x.dry(-1));
     }
@@ -197,12 +197,12 @@ public final class StoresTest {
                 + "throw b when weevils a<200;sift b when 1=1;");
         x.pass(1);
         // 400 to 200 to 100; biscuits 100 to 90 to 81, of which 3 are eaten by weevils.
-        dueCask(x, 0, 78, 100, 0, 1, 2);
-        dueCask(x, 1, 0, 0, 0, 0, 0);
+        Check.dueCask(x, 0, 78, 100, 0, 1, 2);
+        Check.dueCask(x, 1, 0, 0, 0, 0, 0);
         x = Check.ship("cask a biscuits 100 weevils 400 damp 0;cask b biscuits 100 weevils 10 damp 0;"
                 + "throw b when weevils a<200;sift a when weevils a>150;sift a when weevils a>150;sift b when 1=1;");
         x.pass(1);
-        dueCask(x, 1, 90, 5, 0, 1, 1);
+        Check.dueCask(x, 1, 90, 5, 0, 1, 1);
         x = Check.ship("cask a biscuits 100 weevils 0 damp 0;sift a when day=1 and ration=4;");
         x.setRation(4);
         x.pass(1);
@@ -219,28 +219,28 @@ public final class StoresTest {
                 + "issue n from a;issue m from z;issue m from a;issue m from b;issue n from b;issue m from b;");
         Check.due("all is got", x.pass(1), 0);
         // m: 10 of a with all 9, 2 of b with 1; n: 8 of 98 of b with 49 * 8 / 98 = 4.
-        dueMess(x, 0, 12, 1, 0, 12, 10, 0, 12);
-        dueMess(x, 1, 8, 1, 0, 8, 4, 0, 8);
-        dueCask(x, 0, 0, 0, 0, 1, 0);
-        dueCask(x, 1, 89, 45, 0, 1, 0);
-        dueCask(x, 2, 0, 0, 0, 1, 0);
+        Check.dueMess(x, 0, 12, 1, 0, 12, 10, 0, 12);
+        Check.dueMess(x, 1, 8, 1, 0, 8, 4, 0, 8);
+        Check.dueCask(x, 0, 0, 0, 0, 1, 0);
+        Check.dueCask(x, 1, 89, 45, 0, 1, 0);
+        Check.dueCask(x, 2, 0, 0, 0, 1, 0);
         x = Check.ship(casks + "mess m men 12 proud 1;issue m from a when biscuits b>99;issue m from b when biscuits a<10;"
                 + "issue m from a when got m>11;");
         Check.due("tests between issues", x.pass(1), 0);
-        dueMess(x, 0, 12, 1, 0, 12, 10, 0, 12);
+        Check.dueMess(x, 0, 12, 1, 0, 12, 10, 0, 12);
         x.fill(0, 5);
         Check.due("tests that do not hold", x.pass(1), 0);
-        dueCask(x, 0, 5, 0, 0, 1, 0);
+        Check.dueCask(x, 0, 5, 0, 0, 1, 0);
         x = Check.ship(casks + "throw a when 1=1;mess m men 12 proud 1;issue m from a;");
         Check.due("overboard", x.pass(1), 1);
-        dueMess(x, 0, 12, 1, 2, 0, 0, 1, 0);
+        Check.dueMess(x, 0, 12, 1, 2, 0, 0, 1, 0);
         x = Check.ship(casks + "mess m men 12 proud 1;issue m from b when [1=1];issue m from a when 1=1 and not 1=1;");
         x.setRation(0);
         Check.due("no ration", x.pass(3), 0);
-        dueMess(x, 0, 12, 1, 0, 0, 0, 0, 0);
+        Check.dueMess(x, 0, 12, 1, 0, 0, 0, 0, 0);
         x.setRation(9);
         x.pass(1);
-        dueMess(x, 0, 12, 1, 2, 97, 50, 1, 97);
+        Check.dueMess(x, 0, 12, 1, 2, 97, 50, 1, 97);
     }
 
     /** got is that of the day before till the own turn, and counts from 0 from then on. */
@@ -250,8 +250,8 @@ public final class StoresTest {
         BiscuitMess x = Check.ship(casks + messes + "issue n from a when got m=10;issue m from b when got n=4 and got m=0;"
                 + "issue m from c when got n=0;issue m from a when got m=6;");
         Check.due("day 0", x.pass(1), 0);
-        dueMess(x, 0, 10, 5, 0, 10, 0, 0, 10);
-        dueMess(x, 1, 4, 5, 0, 4, 0, 0, 4);
+        Check.dueMess(x, 0, 10, 5, 0, 10, 0, 0, 10);
+        Check.dueMess(x, 1, 4, 5, 0, 4, 0, 0, 4);
         Check.due("c is empty", x.cask(2, 0), 0);
         Check.due("b is full", x.cask(1, 0), 500);
         Check.due("day 1", x.pass(1), 0);
@@ -276,21 +276,21 @@ public final class StoresTest {
         x.setRation(2);
         // 20 of m with 20 weevils are too many for 10; 40 of n with 40 for 20.
         Check.due("more than 10", x.pass(1), 2);
-        dueMess(x, 0, 10, 9, 1, 20, 20, 1, 20);
-        dueMess(x, 1, 20, 9, 1, 40, 40, 1, 40);
+        Check.dueMess(x, 0, 10, 9, 1, 20, 20, 1, 20);
+        Check.dueMess(x, 1, 20, 9, 1, 40, 40, 1, 40);
         x.setRation(9);
         // 39 biscuits are left, and 40 weevils.
         Check.due("both", x.pass(1), 3);
-        dueMess(x, 0, 10, 9, 4, 39, 40, 3, 59);
-        dueMess(x, 1, 20, 9, 3, 0, 0, 2, 40);
+        Check.dueMess(x, 0, 10, 9, 4, 39, 40, 3, 59);
+        Check.dueMess(x, 1, 20, 9, 3, 0, 0, 2, 40);
         Check.due("hungry days", x.pass(60), 120);
-        dueMess(x, 0, 10, 9, 99, 0, 0, 63, 59);
-        dueMess(x, 1, 20, 9, 99, 0, 0, 62, 40);
+        Check.dueMess(x, 0, 10, 9, 99, 0, 0, 63, 59);
+        Check.dueMess(x, 1, 20, 9, 99, 0, 0, 62, 40);
         x.setRation(0);
         Check.due("no ration", x.pass(90), 0);
-        dueMess(x, 0, 10, 9, 9, 0, 0, 63, 59);
+        Check.dueMess(x, 0, 10, 9, 9, 0, 0, 63, 59);
         x.pass(10);
-        dueMess(x, 0, 10, 9, 0, 0, 0, 63, 59);
+        Check.dueMess(x, 0, 10, 9, 0, 0, 0, 63, 59);
     }
 
     private static void weevils() {
@@ -304,7 +304,7 @@ public final class StoresTest {
         for (int[] row : rows) {
             BiscuitMess x = Check.ship("cask a biscuits " + row[0] + " weevils " + row[1] + " damp " + row[2] + ";");
             x.pass(1);
-            dueCask(x, 0, row[3], row[4], row[2], 1, 0);
+            Check.dueCask(x, 0, row[3], row[4], row[2], 1, 0);
         }
     }
 
@@ -345,17 +345,5 @@ public final class StoresTest {
         Check.dueArgument("pass(0)", x, () -> x.pass(0));
         Check.dueArgument("pass(-1)", x, () -> x.pass(-1));
         Check.dueArgument("pass(91)", x, () -> x.pass(91));
-    }
-
-    private static void dueCask(BiscuitMess x, int cask, long... due) {
-        for (int what = 0; what < due.length; what++) {
-            Check.due("cask(" + cask + ", " + what + ")", x.cask(cask, what), due[what]);
-        }
-    }
-
-    private static void dueMess(BiscuitMess x, int mess, long... due) {
-        for (int what = 0; what < due.length; what++) {
-            Check.due("mess(" + mess + ", " + what + ")", x.mess(mess, what), due[what]);
-        }
     }
 }

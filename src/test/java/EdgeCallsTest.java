@@ -755,10 +755,10 @@ public final class EdgeCallsTest {
         }
         BiscuitMess often = new BiscuitMess();
         for (int i = 0; i < 20; i++) {
-            Check.write(often, "cask c biscuits 9 weevils 0 damp 0;sift c when 1" + "+1".repeat(180) + "=181;");
+            Check.write(often, "cask c biscuits 9 weevils 0 damp 0;sift c when 1" + "+1".repeat(90) + "=91;throw c when 1" + "+1".repeat(90) + "=92;");
             Check.due("teach, time " + i, often.teach(), 0);
             often.pass(1);
-            Check.due("sifted, time " + i, often.cask(0, 4), 1);
+            Check.dueCask(often, 0, 9, 0, 0, 1, 1);
         }
         BiscuitMess z = Ships.used();
         long now = z.choose(60) * 1000L + z.advise(60);

@@ -620,7 +620,7 @@ public final class EdgeLanguageTest {
         for (char sign : letters.toCharArray()) {
             names.add("" + sign);
         }
-        for (char first : "abcdz".toCharArray()) {
+        for (char first : "abcdefz".toCharArray()) {
             for (char second : (letters + "0123456789").toCharArray()) {
                 names.add("" + first + second);
                 names.add("aaaaaaaa" + first + second);

@@ -481,10 +481,6 @@ public final class BiscuitMess {
             return key * 37 + (isDigit(sign) ? sign - '0' + 27 : sign - 'a' + 1);
         }
 
-        int kindAt(int n) {
-            return n >= 0 && n <= TOKENS ? kinds[n] : BAD;
-        }
-
         int startAt(int n) {
             return n >= 0 && n <= TOKENS ? starts[n] : 0;
         }
@@ -537,7 +533,7 @@ public final class BiscuitMess {
         }
 
         private int kind() {
-            return tokens.kindAt(next);
+            return next >= 0 && next <= TOKENS ? tokens.kinds[next] : BAD;
         }
 
         private boolean accept(int wanted) {
@@ -715,14 +711,14 @@ public final class BiscuitMess {
 
         private boolean single(int depth) {
             if (kind() == NOT) {
-                if (!acceptDeeper(NOT, depth) || !single(depth + 1)) {
+                if (depth >= DEPTH || !accept(NOT) || !single(depth + 1)) {
                     return false;
                 }
                 plan.addCode(NOT, 0);
                 return true;
             }
             if (kind() == '[') {
-                return acceptDeeper('[', depth) && test(depth + 1) && accept(']');
+                return depth < DEPTH && accept('[') && test(depth + 1) && accept(']');
             }
             if (!sum(depth)) {
                 return false;
@@ -741,10 +737,6 @@ public final class BiscuitMess {
 
         private static boolean isComparison(int kind) {
             return kind == '<' || kind == '>' || kind == '=' || kind == AT_MOST || kind == AT_LEAST;
-        }
-
-        private boolean acceptDeeper(int wanted, int depth) {
-            return depth < DEPTH && accept(wanted);
         }
 
         private boolean sum(int depth) {
@@ -798,13 +790,13 @@ public final class BiscuitMess {
                     next++;
                     return named(kind, oldName(messNames, ship.messes));
                 case '-':
-                    return acceptDeeper('-', depth) && value(depth + 1) && plan.addCode(NEGATIVE, 0);
+                    return depth < DEPTH && accept('-') && value(depth + 1) && plan.addCode(NEGATIVE, 0);
                 case '(':
-                    return acceptDeeper('(', depth) && sum(depth + 1) && accept(')');
+                    return depth < DEPTH && accept('(') && sum(depth + 1) && accept(')');
                 case MIN:
                 case MAX:
                     next++;
-                    return acceptDeeper('(', depth) && sum(depth + 1) && accept(',')
+                    return depth < DEPTH && accept('(') && sum(depth + 1) && accept(',')
                             && sum(depth + 1) && accept(')') && plan.addCode(kind, 0);
                 default:
                     return false;

@@ -4,6 +4,7 @@ public final class ModelTest {
     private static final int INDEX = -1001;
     private static final int ARGUMENT = -1002;
     private static final int STATE = -1003;
+    private static final int OTHER = -1004;
     private static final String[] TOKENS = {"cask", "biscuits", "weevils", "damp", "mess", "men", "proud", "issue", "from",
         "when", "sift", "throw", "day", "ration", "temper", "got", "taps", "not", "and", "or", "min", "max", "(", ")", "[", "]",
         ";", ",", "+", "-", "*", "/", "<", ">", "=", "<=", ">=", "a", "b", "m", "zz9", "x1234567890", "0", "7", "31", "1000",
@@ -170,13 +171,20 @@ public final class ModelTest {
                 case 11: return x.trim(a);
                 default: return x.errorAt();
             }
-        } catch (IndexOutOfBoundsException e) {
-            return INDEX;
-        } catch (IllegalArgumentException e) {
-            return ARGUMENT;
-        } catch (IllegalStateException e) {
-            return STATE;
+        } catch (RuntimeException e) {
+            return numberOf(e.getClass());
         }
+    }
+
+    /** Just these classes: what the machine throws stands below them. */
+    private static int numberOf(Class<?> thrown) {
+        if (thrown == IndexOutOfBoundsException.class) {
+            return INDEX;
+        }
+        if (thrown == IllegalArgumentException.class) {
+            return ARGUMENT;
+        }
+        return thrown == IllegalStateException.class ? STATE : OTHER;
     }
 
     private static int due(Model m, int call, int a, int b) {
